@@ -332,7 +332,7 @@ public final class SaltPlant {
         }
         letFlow();
         for (int i = 0; i < layout.inVessel && profile.has(i); i++) {
-            if (profile.places[i] - flows.saltThrough(first + i) > off) {
+            if (profile.places[i] - flows.throughSalt[first + i] > off) {
                 return i;
             }
         }
@@ -559,6 +559,7 @@ public final class SaltPlant {
         private final long[] grains = new long[PLACES];
         private final long[] pressure = new long[PLACES];
         private final long[] through = new long[PLACES];
+        private final long[] throughSalt = new long[PLACES];
         private final long[] throughGrains = new long[PLACES];
         private long stayWater = 0;
         private long stayGrains = 0;
@@ -628,20 +629,17 @@ public final class SaltPlant {
                 water[place] = w;
                 grains[place] = g;
                 pressure[place] = p;
-                long push = Math.max(0, p - saltOf(w, g) / 100);
+                long salt = saltOf(w, g);
+                long push = Math.max(0, p - salt / 100);
                 through[place] = Math.min(w, push * pass[place] / 100);
-                throughGrains[place] = through[place] * saltThrough(place);
+                throughSalt[place] = salt * leak[place] / 1000;
+                throughGrains[place] = through[place] * throughSalt[place];
                 w -= through[place];
                 g -= throughGrains[place];
                 p = Math.max(0, p - 2);
             }
             stayWater += w;
             stayGrains += g;
-        }
-
-        /** Salt in each of the water that a skin lets through. */
-        long saltThrough(int place) {
-            return saltOf(water[place], grains[place]) * leak[place] / 1000;
         }
 
         long firstFailure(Layout layout, int least, int most) {
