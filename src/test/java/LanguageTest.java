@@ -23,6 +23,12 @@ public final class LanguageTest {
         "throw", "throws", "try", "catch", "synchronized", "assert", "package", "volatile", "native", "System.out",
         "Thread", "Random", "->", "::", "equals(", "hashCode", "toString", "Exact("};
 
+    private static final int MOST_CLASSES = 12;
+    private static final int MOST_FIELDS = 20;
+    private static final int MOST_LINES = 60;
+    private static final Set<Class<?>> STATIC_TYPES = Set.of(
+        int.class, long.class, boolean.class, char.class, String.class, int[].class, long[].class, char[].class, byte[].class);
+
     private final List<String> faults = new ArrayList<>();
 
     private void same(String what, Set<String> got, String[] want) {
@@ -62,8 +68,8 @@ public final class LanguageTest {
             if (!Modifier.isPrivate(f.getModifiers())) {
                 constants.add(f.getName());
             }
-            staticIsFinal(f);
         }
+        fields(c);
         same("constants", constants, CONSTANTS);
         for (Constructor<?> k : c.getDeclaredConstructors()) {
             if (!Modifier.isPublic(k.getModifiers()) || k.getParameterCount() != 0) {
@@ -74,6 +80,9 @@ public final class LanguageTest {
         for (Class<?> inside : c.getDeclaredClasses()) {
             classInside(inside, names);
         }
+        if (1 + c.getDeclaredClasses().length > MOST_CLASSES) {
+            faults.add("the file has more than " + MOST_CLASSES + " classes");
+        }
     }
 
     private void classInside(Class<?> inside, Set<String> names) {
@@ -81,13 +90,35 @@ public final class LanguageTest {
             faults.add(inside + " is not a static class of our own");
         }
         ownNames(inside, names);
+        fields(inside);
+    }
+
+    private void fields(Class<?> c) {
         int fields = 0;
-        for (Field f : inside.getDeclaredFields()) {
-            staticIsFinal(f);
-            fields += Modifier.isStatic(f.getModifiers()) ? 0 : 1;
+        for (Field f : c.getDeclaredFields()) {
+            if (Modifier.isStatic(f.getModifiers())) {
+                staticIsConstant(f);
+            } else {
+                fields++;
+                isPlain(f);
+            }
         }
-        if (fields > 20) {
-            faults.add(inside + " has " + fields + " fields");
+        if (fields > MOST_FIELDS) {
+            faults.add(c + " has " + fields + " fields");
+        }
+    }
+
+    /** A number, a class of our own, or a row of either; two dimensions are for numbers alone. */
+    private void isPlain(Field f) {
+        Class<?> type = f.getType();
+        int dimensions = 0;
+        while (type.isArray()) {
+            type = type.getComponentType();
+            dimensions++;
+        }
+        boolean own = type.getDeclaringClass() == SaltPlant.class && dimensions < 2;
+        if (!own && !(type.isPrimitive() && dimensions < 3)) {
+            faults.add(f + " is of a type that the language leaves out");
         }
     }
 
@@ -103,9 +134,26 @@ public final class LanguageTest {
         }
     }
 
-    private void staticIsFinal(Field f) {
-        if (Modifier.isStatic(f.getModifiers()) && !Modifier.isFinal(f.getModifiers())) {
-            faults.add(f + " is static and not final");
+    private void staticIsConstant(Field f) {
+        if (!Modifier.isFinal(f.getModifiers()) || !STATIC_TYPES.contains(f.getType())) {
+            faults.add(f + " is static and no constant of the language");
+        }
+    }
+
+    /** A method begins at a line that opens a brace and ends at the brace that stands as far in as it does. */
+    private void lengths(String[] lines) {
+        for (int i = 0; i < lines.length; i++) {
+            if (!lines[i].matches("(    |        )[a-z].*\\) \\{") || lines[i].trim().matches("(if|for|while|switch) .*")) {
+                continue;
+            }
+            String end = lines[i].replaceAll("\\S.*", "") + "}";
+            int last = i;
+            while (last < lines.length && !lines[last].equals(end)) {
+                last++;
+            }
+            if (last - i + 1 > MOST_LINES) {
+                faults.add(lines[i].trim() + " takes more than " + MOST_LINES + " lines");
+            }
         }
     }
 
@@ -119,6 +167,7 @@ public final class LanguageTest {
                 faults.add("the text holds " + word);
             }
         }
+        lengths(Files.readString(SOURCE).split("\n"));
         for (String line : code.split("\n")) {
             if (line.startsWith("import ") && !line.matches("import java\\.util\\.(Arrays|ArrayList|List|Iterator);")) {
                 faults.add("not a library of ours: " + line);
